@@ -85,6 +85,8 @@ public final class EventTextTest {
         firstError("t600", 3);
         firstError("t100", 3);
         firstError("o8", 1);
+        firstError("o/", 1);
+        firstError("o;", 1);
         firstError("o00", 2);
         firstError("c00;;", 4);
         firstError("c00,c00", 3);
@@ -121,6 +123,8 @@ public final class EventTextTest {
         Check.due("run() of times", Check.runText(x, "t1;t60;t6;t9;t10"), 5);
         Check.due("minutes() of times", x.minutes(), 98);
         Check.due("the buffer is empty after run", x.clearText(), 0);
+        Check.due("run() of a farewell", Check.runText(x, "c64;l64"), 2);
+        Check.due("rest(6, 4) after a farewell", x.rest(6, 4), 3);
         x.setQuick(true);
         Check.due("run() of a quick usher", Check.runText(x, "c10;l10"), 2);
         Check.due("rest(1, 0) of a quick usher", x.rest(1, 0), 0);

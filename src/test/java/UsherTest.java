@@ -117,7 +117,10 @@ public final class UsherTest {
         x.leave(7, 5, false);
         x.pass(19);
         Check.due("rest(7, 5) in its last minute", x.rest(7, 5), 1);
+        Check.due("entries() in its last minute", x.entries(), 1);
+        Check.due("rows(5) in its last minute", x.rows(5), 128);
         x.pass(1);
+        Check.due("rows(5) when it has faded", x.rows(5), 0);
         Check.due("rest(7, 5) faded", x.rest(7, 5), 0);
         Check.due("rest(0, 0) never there", x.rest(0, 0), 0);
         ListenersTest.refuseOutside(x, "rest", (row, concert) -> x.rest(row, concert));
