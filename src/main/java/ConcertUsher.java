@@ -575,7 +575,10 @@ public final class ConcertUsher {
         }
     }
 
-    /** The buffer, read sign by sign: each state names what may come next, and each state but WRONG can be completed. */
+    /**
+     * The buffer, read sign by sign. A state names what may come next; as each state but WRONG can be completed,
+     * the first sign that leads to WRONG is the first error.
+     */
     private static final class EventText {
         private static final int EVENT = 0;
         private static final int ROW_AND_CONCERT = 1;
