@@ -70,6 +70,18 @@ final class Check {
         return x.run();
     }
 
+    /** The number next to each end of a range, the least and the greatest int, and what a byte or a char would wrap. */
+    static int[] beyond(int least, int greatest) {
+        return new int[] {least - 1, greatest + 1, Integer.MIN_VALUE, Integer.MAX_VALUE, Integer.MIN_VALUE + least,
+            least + 256, greatest + 65536, greatest - 65536};
+    }
+
+    static void same(String what, String got, String want) {
+        if (!got.equals(want)) {
+            tell(what + " is not as due:\n" + got + "\ndue is\n" + want);
+        }
+    }
+
     static void end(String name) {
         if (wrong > 0) {
             System.out.println(name + ": " + wrong + " answers are not as due");
