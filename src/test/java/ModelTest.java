@@ -11,8 +11,9 @@ import java.util.regex.Pattern;
  * it plays forecasts forward instead of computing them, and reads event texts by a pattern.
  */
 public final class ModelTest {
-    private static final int RUNS = 300;
-    private static final int CALLS = 120;
+    private static final int RUNS = 500;
+    /** An object is used for at most 512 calls; one step takes up to 64 of them. */
+    private static final int LAST_STEP = 512 - 64;
 
     private long seed;
     private final ConcertUsher x = new ConcertUsher();
@@ -20,6 +21,7 @@ public final class ModelTest {
     private Model model = new Model();
     private StringBuilder buffer = new StringBuilder();
     private String call;
+    private int used;
 
     /** A failed call of the model; its class is what the usher must throw. */
     private static final class Refused extends Exception {
@@ -272,7 +274,7 @@ public final class ModelTest {
     private boolean agrees() {
         StringBuilder told = new StringBuilder();
         int busy = draw(0, 2);
-        for (int n = 0; n < CALLS; n++) {
+        while (used <= LAST_STEP) {
             String fault = compare(busy);
             told.append(call).append("; ");
             if (fault != null) {
@@ -298,6 +300,7 @@ public final class ModelTest {
         if (kind >= 24) {
             appendToBoth(text);
         }
+        used += 5;
         Object want;
         try {
             want = ofModel(kind, row, concert, span, flag, times);
@@ -472,6 +475,7 @@ public final class ModelTest {
         for (int n = 0; n < text.length() && buffer.length() < 60; n++) {
             buffer.append(text.charAt(n));
             x.append(text.charAt(n));
+            used++;
         }
     }
 

@@ -36,7 +36,16 @@ final class Probe {
     private static void tellBuffer(Supplier<ConcertUsher> maker, StringBuilder told) {
         told.append("first error ").append(maker.get().firstError());
         told.append(", length ").append(maker.get().clearText());
-        ConcertUsher x = maker.get();
+        tellRun(maker.get(), told);
+        ConcertUsher longer = maker.get();
+        if (longer.clearText() < 60) {
+            longer = maker.get();
+            longer.append('0');
+            tellRun(longer, told);
+        }
+    }
+
+    private static void tellRun(ConcertUsher x, StringBuilder told) {
         try {
             told.append(", run ").append(x.run()).append(", then ").append(x.digest());
         } catch (IllegalArgumentException e) {

@@ -302,10 +302,12 @@ public final class UndoEdgesTest {
     private static void digestOfEachScene() {
         for (Scene scene : Scene.values()) {
             ConcertUsher x = scene.make();
-            Check.due("digest() in scene " + scene, x.digest(), digestByTheDocument(x));
-            Check.due("digest() in scene " + scene + " again", x.digest(), digestByTheDocument(x));
-            x.pass(1);
-            Check.due("digest() a minute after scene " + scene, x.digest(), digestByTheDocument(x));
+            long digest = x.digest();
+            Check.due("digest() in scene " + scene, digest, digestByTheDocument(x));
+            Check.due("digest() in scene " + scene + " again", x.digest(), digest);
+            ConcertUsher later = scene.make();
+            later.pass(1);
+            Check.due("digest() a minute after scene " + scene, later.digest(), digestByTheDocument(later));
         }
     }
 
