@@ -284,13 +284,13 @@ public final class ConcertUsher {
     }
 
     private static void checkRow(int row) {
-        if (row < 0 || row >= ROWS) {
+        if (!isRow(row)) {
             throw new IndexOutOfBoundsException("there is no such row");
         }
     }
 
     private static void checkConcert(int concert) {
-        if (concert < 0 || concert >= CONCERTS) {
+        if (!isConcert(concert)) {
             throw new IndexOutOfBoundsException("there is no such concert");
         }
     }
@@ -301,13 +301,22 @@ public final class ConcertUsher {
         }
     }
 
+    private static boolean isRow(int row) {
+        return row >= 0 && row < ROWS;
+    }
+
+    private static boolean isConcert(int concert) {
+        return concert >= 0 && concert < CONCERTS;
+    }
+
     private static int placeOf(int row, int concert) {
         return row * CONCERTS + concert;
     }
 
     private int doEvents() {
         int done = 0;
-        for (int start = 0; start < text.length; start++) {
+        int end = text.length;
+        for (int start = 0; start < end; start++) {
             if (text.startsEvent(start)) {
                 if (!doEvent(start)) {
                     return done;
@@ -318,19 +327,22 @@ public final class ConcertUsher {
         return done;
     }
 
-    /** The text has been found complete, so its digits are rows, concerts and minutes that exist. */
+    /**
+     * Tells whether the event is done: not if its method would throw. What becomes an index is looked at once more,
+     * though the text has been found complete, so that this need not be proved from the grammar.
+     */
     private boolean doEvent(int start) {
         int first = text.digitAt(start + 1);
+        int second = text.digitAt(start + 2);
         switch (text.signAt(start)) {
             case 'c':
-                return seatIfRoom(placeOf(first, text.digitAt(start + 2)));
+                return seatIfRoom(first, second);
             case 'l':
-                return unseatIfWanted(placeOf(first, text.digitAt(start + 2)), true);
+                return unseatIfWanted(first, second, true);
             case 's':
-                return unseatIfWanted(placeOf(first, text.digitAt(start + 2)), false);
+                return unseatIfWanted(first, second, false);
             case 'p':
-                hall.perform(first);
-                return true;
+                return performIfThere(first);
             case 't':
                 hall.letPass(text.numberAt(start + 1));
                 return true;
@@ -340,19 +352,27 @@ public final class ConcertUsher {
         }
     }
 
-    private boolean seatIfRoom(int place) {
-        if (!hall.hasRoom(place)) {
+    private boolean seatIfRoom(int row, int concert) {
+        if (!isRow(row) || !isConcert(concert) || !hall.hasRoom(placeOf(row, concert))) {
             return false;
         }
-        hall.seat(place);
+        hall.seat(placeOf(row, concert));
         return true;
     }
 
-    private boolean unseatIfWanted(int place, boolean isLoud) {
-        if (!hall.isWantedAt(place)) {
+    private boolean unseatIfWanted(int row, int concert, boolean isLoud) {
+        if (!isRow(row) || !isConcert(concert) || !hall.isWantedAt(placeOf(row, concert))) {
             return false;
         }
-        hall.unseat(place, isLoud);
+        hall.unseat(placeOf(row, concert), isLoud);
+        return true;
+    }
+
+    private boolean performIfThere(int concert) {
+        if (!isConcert(concert)) {
+            return false;
+        }
+        hall.perform(concert);
         return true;
     }
 
@@ -406,9 +426,12 @@ public final class ConcertUsher {
             }
         }
 
+        /** One of the listeners there calls: who has just come, or who answers a question; nobody if none is there. */
         private void hearCall(int place) {
-            rests[place] = fading;
-            counts[CALLS]++;
+            if (listeners[place] > 0) {
+                rests[place] = fading;
+                counts[CALLS]++;
+            }
         }
 
         private void hearFarewell(int place) {
@@ -416,13 +439,7 @@ public final class ConcertUsher {
                 rests[place] = 0;
             } else if (rests[place] > patience) {
                 rests[place] = patience;
-                askRow(place);
-            }
-        }
-
-        private void askRow(int place) {
-            counts[ROW_QUESTIONS]++;
-            if (isWantedAt(place)) {
+                counts[ROW_QUESTIONS]++;
                 hearCall(place);
             }
         }
@@ -430,9 +447,7 @@ public final class ConcertUsher {
         private void askAllRows() {
             counts[GENERAL_QUESTIONS]++;
             for (int place = 0; place < PLACES; place++) {
-                if (isWantedAt(place)) {
-                    hearCall(place);
-                }
+                hearCall(place);
             }
         }
 
